@@ -365,10 +365,10 @@ public final class LoafWed {
     /** How many loaves go in a year; one flat function, so that no call goes deeper than the language allows. */
     private static final class Kinds {
         static int goes(int kind, int year, int damp, int dry) {
-            int ofDozen = Math.floorMod(year, DOZEN);
-            boolean isFeast = Math.floorMod(year, 5) == 4;
-            int plain = 1 + (dry >> ofDozen & 1);
-            int rich = Math.floorMod(year, 2) == 0 ? plain : 0;
+            int ofDozen = year % DOZEN;
+            boolean isFeast = year % 5 == 4;
+            int plain = (dry >> ofDozen & 1) == 1 ? 2 : 1;
+            int rich = year % 2 == 0 ? plain : 0;
             int quarrel = isFeast ? plain + 2 : plain;
             switch (kind) {
                 case 1:
@@ -378,9 +378,9 @@ public final class LoafWed {
                 case 3:
                     return (damp >> ofDozen & 1) == 1 ? 2 * plain : plain;
                 case 4:
-                    return Math.floorMod(year, 3) == 2 ? quarrel + 1 : quarrel;
+                    return year % 3 == 2 ? quarrel + 1 : quarrel;
                 case 5:
-                    return isFeast ? rich : Math.max(0, rich - 1);
+                    return isFeast || rich == 0 ? rich : rich - 1;
                 default:
                     return plain;
             }
@@ -1059,7 +1059,8 @@ public final class LoafWed {
                 takeRun('a', 'z');
                 token = WORD;
             } else if (within(signs[behind], '0', '9')) {
-                takeNumeral();
+                takeRun('0', '9');
+                setNumber();
             } else {
                 token = signs[behind] == ';' ? SEMICOLON : NO_TOKEN;
                 behind++;
@@ -1067,8 +1068,7 @@ public final class LoafWed {
         }
 
         /** A third figure spoils the whole number, so that one run of figures is always one token. */
-        private void takeNumeral() {
-            takeRun('0', '9');
+        private void setNumber() {
             token = behind - first <= 2 ? NUMBER : NO_TOKEN;
             number = 0;
             for (int i = first; i < behind && token == NUMBER; i++) {
