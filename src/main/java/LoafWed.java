@@ -2,7 +2,7 @@
 public final class LoafWed {
     public static final int NONE = -1, BAD = -2, NO = -3, FULL = -4;
 
-    /** What give, of and swapped answer where the other calls answer BAD: -2 could be read as a number there. */
+    /** The document tells give, of and swapped this answer for BAD; it is counted as BAD all the same. */
     private static final int BAD_TEN = -10;
     private static final int NOT_SO_MANY = -5;
     private static final int READ_FAULT = -10;

@@ -55,6 +55,11 @@ public final class ComesTest {
         due("15: till(4)", x.till(4), LoafWed.BAD);
         due("15: till(-1)", x.till(-1), LoafWed.BAD);
         due("15: refused", x.status(0), 3);
+        x.pair(1, 50);
+        due("15: in the 100th year from now", x.till(4), LoafWed.NONE);
+        x.undo();
+        x.year(1);
+        due("15: in the 99th year from now", x.till(4), 104);
     }
 
     private static void together() {
@@ -95,6 +100,13 @@ public final class ComesTest {
         x.give(0, 1);
         x.give(1, 1);
         due("16: too late", x.together(0), LoafWed.NONE);
+        x.valley();
+        x.year(1);
+        x.pair(1, 50);
+        x.pair(1, 50);
+        due("16: in the 100th year from now", x.together(0), LoafWed.NONE);
+        x.year(1);
+        due("16: in the 99th year from now", x.together(0), 100);
     }
 
     private static void gifts() {
@@ -103,6 +115,7 @@ public final class ComesTest {
         due("17: no second pair", x.gifts(0, 1, 1, 0), LoafWed.BAD);
         x.pair(0, 3);
         x.pair(0, 0);
+        due("17: one year", x.gifts(0, 1, 1, 0), 0);
         due("17: nothing is needed", x.gifts(0, 1, 2, 0), 0);
         due("17: nothing is needed", x.gifts(0, 1, 2, 1), 0);
         due("17: nothing is needed", x.gifts(0, 1, 2, 2), 0);

@@ -235,6 +235,13 @@ public final class CountedTest {
         due("26: mice(-1, 0, 0)", x.mice(-1, 0, 0), LoafWed.BAD);
         due("26: the fraction stays", x.part(0), above);
         due("26: refused", x.status(0), 7);
+        x.valley();
+        x.damp(4095);
+        x.dry(4095);
+        x.pair(3, 60);
+        chance(x, 0, 12, 10, 0, 1);
+        chance(x, 0, 12, 1, 999999999999L, 1000000000000L);
+        chance(x, 0, 12, 0, 1, 1);
     }
 
     private static void years() {
@@ -252,6 +259,8 @@ public final class CountedTest {
         due("27: w of 69, pair 1", x.years(0, 1, 69), 32);
         due("27: w of 88, pair 2", x.years(0, 1, 88), 32);
         due("27: w of 89, pair 2", x.years(0, 1, 89), 31);
+        due("27: each year, for each pair, the next X", x.years(0, 4, 15), 27 - drawn(0, 4, 15));
+        due("27: the last one may go", x.years(1, 30, 100), 0);
         due("27: seed of -1", x.years(-1, 0, 0), LoafWed.BAD);
         due("27: seed of 1000000", x.years(1000000, 0, 0), LoafWed.BAD);
         due("27: n of -1", x.years(0, -1, 0), LoafWed.BAD);
@@ -260,6 +269,17 @@ public final class CountedTest {
         due("27: w of 101", x.years(0, 0, 101), LoafWed.BAD);
         due("27: refused", x.status(0), 6);
         due("27: loaves stay", x.count(3), 35);
+    }
+
+    /** How many of the draws for pairs 1 and 2 of three are below w. */
+    private static int drawn(long seed, int n, int w) {
+        long x = seed;
+        int below = 0;
+        for (int draw = 0; draw < 3 * n; draw++) {
+            x = (x * 1103515245L + 12345L) & 0x7fffffffL;
+            below += draw % 3 != 0 && (x >> 16) % 100 < w ? 1 : 0;
+        }
+        return below;
     }
 
     private static void nothingChanges() {

@@ -47,7 +47,12 @@ public final class ThereTest {
         long kept = x.digest();
         due("30: the other was not", x.from(1), LoafWed.NO);
         x.valley();
+        x.year(7);
         x.pair(5, 5);
+        x.pair(4, 4);
+        x.kin(20);
+        x.counted(0, 20, 30);
+        x.year(30);
         x.image(1);
         due("30: from", x.from(0), 1);
         due("30: all is as it was", x.digest(), kept);

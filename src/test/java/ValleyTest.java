@@ -147,7 +147,7 @@ public final class ValleyTest {
 
     private static void readAll() {
         LoafWed x = new LoafWed();
-        due("9: all items", Check.read(x, "valley;damp 2 03 11;dry;dry 0;pair 5 60;pair0 00;kin 1;damp 4 2;kin20 ;  "), 9);
+        due("9: all items", Check.read(x, "valley;damp 2 03 11;dry 8;dry;dry 0;pair 5 60;pair0 00;kin 1;damp 4 2;kin20 ;  "), 10);
         due("9: pairs", x.count(0), 2);
         due("9: kin", x.count(1), 2);
         due("9: kind", x.of(0, 0), 5);
@@ -155,7 +155,7 @@ public final class ValleyTest {
         due("9: since", x.of(0, 2), 0);
         due("9: ended", x.of(1, 3), LoafWed.NONE);
         due("9: damp, with those told ahead", x.damp(0), 1 << 2 | 1 << 3 | 1 << 11 | 1 << 4);
-        due("9: dry", x.dry(0), 1);
+        due("9: dry, with those told ahead", x.dry(0), 1 << 8 | 1);
         due("9: valley alone", Check.read(x, "  valley  ;"), 1);
         due("9: none is left", x.count(0) + x.count(1), 0);
         due("9: the text stays", x.count(6), 11);

@@ -67,6 +67,9 @@ public final class YearsTest {
         due("10: ended in 59", x.of(3, 3), 59);
         due("10: the year", x.count(2), 65);
         due("10: none ends again", x.year(60), 0);
+        x.pair(0, 1);
+        x.pair(0, 1);
+        due("10: two end in one year", x.year(1), 16 + 32);
         due("10: refused", x.status(0), 3);
     }
 
