@@ -305,6 +305,10 @@ public final class ComesEdgesTest {
         due("an odd year does no harm", x.drought(1), 0);
         due("year 2", x.drought(2), 2);
         due("the 60th year from now is year 60", x.drought(60), 0);
+        x = pairs(PLAIN, 1, 1, 1, 1, 1, 2);
+        due("the last of six alone could have one more", x.drought(1), 0);
+        x.dry(1);
+        due("all six have none, whatever is dry", x.drought(1), 1);
         x = pairs(RICH, 60);
         x.pair(PLAIN, 60);
         x.year(3);

@@ -389,6 +389,13 @@ public final class CountedEdgesTest {
         chance(x, 1, 1, 10, 0, 1);
         chance(x, 1, 1, 0, 1, 1);
         chance(x, 2, 1, 10, 1, 1);
+        x = pairs(3, 60);
+        x.damp(4095);
+        x.dry(4095);
+        // Four go a year, so that of 60 mice in all twelve years would leave none.
+        chance(x, 0, 12, 10, 0, 1);
+        chance(x, 0, 12, 5, 4095, 4096);
+        chance(x, 0, 11, 10, 1, 1);
         x = pairs(MISERS, 1, 2);
         chance(x, 0, 4, 10, 0, 1);
         chance(x, 0, 4, 1, 6561, 10000);

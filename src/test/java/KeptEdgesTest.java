@@ -7,6 +7,7 @@ public final class KeptEdgesTest {
 
     public static void main(String[] args) {
         undoOfEach();
+        undoOfEnds();
         undoEightAtMost();
         undoRoundAndRound();
         undoBehindAPair();
@@ -64,6 +65,21 @@ public final class KeptEdgesTest {
         }
         due("none more", x.undo(), -3);
         due("the last pair is as at first", x.of(5, 1) * 10 + x.of(5, 3), 39);
+    }
+
+    private static void undoOfEnds() {
+        LoafWed x = new LoafWed();
+        for (int p = 0; p < 6; p++) {
+            x.pair(0, p + 1);
+        }
+        due("all end", x.year(6), 63);
+        for (int p = 5; p >= 0; p--) {
+            due("it ended", x.of(p, 3), p);
+            due("undo()", x.undo(), p);
+            due("it has not ended", x.of(p, 3), -1);
+            due("it has one", x.of(p, 1), 1);
+            due("who ended ahead of it has", x.of(0, 3), p == 0 ? -1 : 0);
+        }
     }
 
     private static void undoEightAtMost() {
@@ -178,6 +194,19 @@ public final class KeptEdgesTest {
         return x;
     }
 
+    /** No row is left as full() has it, so that what an image does not bring back is seen. */
+    private static void fillOtherwise(LoafWed x) {
+        x.year(7);
+        for (int p = 0; p < 6; p++) {
+            x.pair(5 - p, 1 + p);
+        }
+        for (int k = 0; k < 8; k++) {
+            x.kin(1 + k);
+            x.counted(5 - k % 6, k, k);
+        }
+        x.year(60);
+    }
+
     /** Digests on the way back through all that may be undone. */
     private static List<Long> wayBack(LoafWed x) {
         List<Long> seen = new ArrayList<>();
@@ -200,7 +229,7 @@ public final class KeptEdgesTest {
             x.year(60);
             x.valley();
             x.image(1 - i);
-            x.pair(3, 3);
+            fillOtherwise(x);
             due("from(" + i + ")", x.from(i), 1);
             due("all is there", x.digest(), kept);
             CHECK.holds("all that may be undone, too", wayBack(x).equals(want));

@@ -2,8 +2,9 @@ import java.util.Random;
 
 /** Long rows of calls by chance (with fixed seeds), each answered by LoafWed and by the Model alike. */
 public final class ModelTest {
-    private static final int RUNS = 1200;
-    private static final int CALLS = 250;
+    private static final int RUNS = 2400;
+    /** What an object answers beyond 512 calls is free; a step with a text may need some 160 of them. */
+    private static final int CALLS = 512 - 160 - 10;
     private static final String[] WORDS = {"valley", "damp", "dry", "pair", "kin", "pairs", "v", ";", " ", "0", "7", "12", "60", "061", "A", "-"};
 
     private final Check check = new Check();
@@ -12,6 +13,7 @@ public final class ModelTest {
     private final Model m = new Model();
     private final String run;
     private int wrong = 0;
+    private int calls = 0;
 
     private ModelTest(int seed) {
         random = new Random(seed);
@@ -33,17 +35,22 @@ public final class ModelTest {
     }
 
     private int live() {
-        for (int i = 0; i < CALLS && wrong == 0; i++) {
+        while (calls < CALLS && wrong == 0) {
             step();
             due("digest()", x.digest(), m.digest());
         }
         for (int what = 0; what < 3; what++) {
             due("status(" + what + ")", x.status(what), m.status(what));
         }
+        if (calls > 512) {
+            wrong++;
+            System.out.println(run + "an object was asked " + calls + " times");
+        }
         return wrong;
     }
 
     private void due(String call, long got, long want) {
+        calls++;
         if (got != want) {
             wrong++;
         }
@@ -163,6 +170,7 @@ public final class ModelTest {
             int to = Math.min(b.length(), at + random.nextInt(4));
             b.replace(at, to, WORDS[random.nextInt(WORDS.length)]);
         }
+        b.setLength(Math.min(b.length(), 155));
         due("clear()", x.clear(), m.clear());
         for (int i = 0; i < b.length(); i++) {
             due("type()", x.type(b.charAt(i)), m.type(b.charAt(i)));

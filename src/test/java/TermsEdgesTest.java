@@ -211,6 +211,13 @@ public final class TermsEdgesTest {
         }
         due("all six, the last in the last", x.year(60), 63);
         due("none is left", x.count(3), 0);
+        x.valley();
+        for (int p = 0; p < 6; p++) {
+            x.pair(PLAIN, 2);
+        }
+        due("none in the first", x.year(1), 0);
+        due("all six in one year", x.year(1), 63);
+        due("when", x.of(0, 3) + x.of(5, 3), 2);
     }
 
     private static void neverWas() {
